@@ -27,6 +27,7 @@ public final class ModelTest {
         }
         killEverySize();
         sortEverySize();
+        pileEveryShape();
         Check.end("ModelTest");
     }
 
@@ -54,6 +55,32 @@ public final class ModelTest {
                 t.counts();
             }
         }
+    }
+
+    /** The first three make a pile on which only the fourth RUN from the top asks for merging, or just not. */
+    private static void pileEveryShape() {
+        for (int lowest = 124; lowest <= 126; lowest++) {
+            new ModelTest(lowest).pile(lowest, 80, 25, 20, 30, 16);
+        }
+        for (int run = 0; run < 300; run++) {
+            Random random = new Random(run);
+            int[] lengths = new int[3 + random.nextInt(8)];
+            int left = 600;
+            for (int k = 0; k < lengths.length; k++) {
+                lengths[k] = Math.min(left, 10 + random.nextInt(2 * left / (lengths.length + 2 - k) + 1));
+                left -= lengths[k];
+            }
+            new ModelTest(run).pile(lengths);
+        }
+    }
+
+    private void pile(int... lengths) {
+        for (int length : lengths) {
+            line(random.nextInt(10), 1 + random.nextInt(5), length, 1);
+        }
+        sort(3);
+        counts();
+        wholeRow();
     }
 
     private void step() {
