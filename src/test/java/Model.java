@@ -30,6 +30,7 @@ final class Model {
     private long parted = 0;
     private long runs = 0;
     private long merges = 0;
+    private final List<String> partings = new ArrayList<>();
 
     int put(int v) {
         room(1);
@@ -134,6 +135,11 @@ final class Model {
         int had = row.size();
         row.clear();
         return had;
+    }
+
+    /** Of each range that was PARTED its size, L and R, so that a test can tell whether it is where it means to be. */
+    List<String> partings() {
+        return partings;
     }
 
     private static void argument(boolean good) {
@@ -304,6 +310,7 @@ final class Model {
             int pivot = partitionRight(a, begin, end, already);
             int lSize = pivot - begin;
             int rSize = end - (pivot + 1);
+            partings.add(size + " " + lSize + " " + rSize);
             if (lSize < size / 8 || rSize < size / 8) {
                 if (--badAllowed == 0) {
                     falls++;

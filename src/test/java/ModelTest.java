@@ -7,6 +7,11 @@ public final class ModelTest {
         127, 128, 129, 255, 256, 599, 600, 601, Integer.MAX_VALUE - 1, Integer.MAX_VALUE
     };
 
+    /** What an object answers beyond so many calls is free. */
+    private static final int PROMISED = 512;
+    /** So many places can be looked at, number and TAG, beside the other calls on one object. */
+    private static final int PART = 200;
+
     private final Random random;
     private final SortBench program = new SortBench();
     private final Model model = new Model();
@@ -19,9 +24,9 @@ public final class ModelTest {
     }
 
     public static void main(String[] args) {
-        for (int run = 0; run < 400; run++) {
+        for (int run = 0; run < 2000; run++) {
             ModelTest t = new ModelTest(run);
-            while (t.calls < 480) {
+            while (t.calls < PROMISED) {
                 t.step();
             }
         }
@@ -34,13 +39,17 @@ public final class ModelTest {
     private static void killEverySize() {
         for (int way = 0; way <= 4; way++) {
             for (int n = 0; n <= 600; n += n < 140 ? 1 : 23) {
-                ModelTest t = new ModelTest(n);
-                t.kill(way, n);
-                t.wholeRow();
-                t.counts();
-                t.sort(way);
-                t.wholeRow();
-                t.counts();
+                for (int from = 0; from == 0 || from < n; from += PART) {
+                    ModelTest killed = new ModelTest(n);
+                    killed.kill(way, n);
+                    killed.counts();
+                    killed.places(from);
+                    ModelTest sorted = new ModelTest(n);
+                    sorted.kill(way, n);
+                    sorted.sort(way);
+                    sorted.counts();
+                    sorted.places(from);
+                }
             }
         }
     }
@@ -48,11 +57,13 @@ public final class ModelTest {
     private static void sortEverySize() {
         for (int way = 0; way <= 4; way++) {
             for (int n = 0; n <= 600; n += n < 140 ? 1 : 23) {
-                ModelTest t = new ModelTest(n);
-                t.more(n, n % 3 == 0 ? 7 : 100000, n);
-                t.sort(way);
-                t.wholeRow();
-                t.counts();
+                for (int from = 0; from == 0 || from < n; from += PART) {
+                    ModelTest t = new ModelTest(n);
+                    t.more(n, n % 3 == 0 ? 7 : 100000, n);
+                    t.sort(way);
+                    t.counts();
+                    t.places(from);
+                }
             }
         }
     }
@@ -60,7 +71,7 @@ public final class ModelTest {
     /** The first three make a pile on which only the fourth RUN from the top asks for merging, or just not. */
     private static void pileEveryShape() {
         for (int lowest = 124; lowest <= 126; lowest++) {
-            new ModelTest(lowest).pile(lowest, 80, 25, 20, 30, 16);
+            pile(lowest, lowest, 80, 25, 20, 30, 16);
         }
         for (int run = 0; run < 300; run++) {
             Random random = new Random(run);
@@ -70,17 +81,20 @@ public final class ModelTest {
                 lengths[k] = Math.min(left, 10 + random.nextInt(2 * left / (lengths.length + 2 - k) + 1));
                 left -= lengths[k];
             }
-            new ModelTest(run).pile(lengths);
+            pile(run, lengths);
         }
     }
 
-    private void pile(int... lengths) {
-        for (int length : lengths) {
-            line(random.nextInt(10), 1 + random.nextInt(5), length, 1);
+    private static void pile(int run, int... lengths) {
+        for (int from = 0; from < 600; from += PART) {
+            ModelTest t = new ModelTest(run);
+            for (int length : lengths) {
+                t.line(t.random.nextInt(10), 1 + t.random.nextInt(5), length, 1);
+            }
+            t.sort(3);
+            t.counts();
+            t.places(from);
         }
-        sort(3);
-        counts();
-        wholeRow();
     }
 
     private void step() {
@@ -105,10 +119,11 @@ public final class ModelTest {
     /** A row that is sorted but for some exchanges makes QUICK's PARTLY give up, or just not. */
     private void nearlySorted() {
         clear();
-        line(0, 1, 24 + random.nextInt(400), 1);
+        int n = 24 + random.nextInt(400);
+        line(0, 1, n, 1);
         int swaps = random.nextInt(6);
         for (int k = 0; k < swaps; k++) {
-            int i = random.nextInt((int) model.count(0) - 10);
+            int i = random.nextInt(n - 10);
             exchange(i, i + random.nextInt(10));
         }
         sortAndLook(random.nextInt(3) == 0 ? 3 : 2);
@@ -117,8 +132,8 @@ public final class ModelTest {
     private void sortAndLook(int way) {
         sort(way);
         counts();
-        if (random.nextInt(4) == 0) {
-            wholeRow();
+        if (random.nextInt(8) == 0) {
+            places(place());
         }
         is(random.nextInt(3));
     }
@@ -147,6 +162,9 @@ public final class ModelTest {
     }
 
     private void same(String call, Check.Call want, Check.Call got) {
+        if (calls == PROMISED) {
+            return;
+        }
         calls++;
         Check.due("run " + run + ", call " + calls + ": " + call, Check.answer(want), Check.answer(got));
     }
@@ -214,13 +232,10 @@ public final class ModelTest {
         same("clear()", model::clear, program::clear);
     }
 
-    /** More calls than an object is promised for, so the count of calls is left as it was. */
-    private void wholeRow() {
-        int before = calls;
-        for (int i = 0; i <= model.count(0); i++) {
+    private void places(int from) {
+        for (int i = from; i <= model.count(0) && i < from + PART; i++) {
             get(i);
         }
-        calls = before;
     }
 
     private void counts() {

@@ -33,9 +33,11 @@ public final class RowTest {
         Check.due("put(most)", 3, x.put(MOST));
         Check.row("put", x, 7, LEAST, MOST);
         Check.tags("put", x, 0, 1, 2);
-        for (int k = 4; k <= 600; k++) {
+        for (int k = 4; k <= 400; k++) {
             Check.due("put the " + k + "th", k, x.put(k));
         }
+        x.line(401, 1, 199, 1);
+        Check.due("put the 600th", 600, x.put(600));
         Check.unsupported("put the 601st", () -> x.put(1));
         Check.due("after the 601st: count(0)", 600, x.count(0));
         Check.due("after the 601st: get(599)", 600, x.get(599));

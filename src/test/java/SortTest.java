@@ -144,7 +144,7 @@ public final class SortTest {
             for (int o = 0; o <= 3; o++) {
                 SortBench x = new SortBench();
                 x.order(o);
-                x.more(way * 4 + o, 700, 590);
+                x.more(way * 4 + o, 40, 110);
                 x.put(Integer.MIN_VALUE);
                 x.put(Integer.MAX_VALUE);
                 long sum = sum(x);
