@@ -13,9 +13,12 @@ public final class EdgeQuickTest {
         fewerThan24NotFirst();
         unguardedAsksBeforeItsRange();
         moreThan128();
+        moreThan128ByChance();
         equalOnesUpToTheLast();
         equalOnesBelowGreaterOnes();
+        equalOnesBelowOneGreaterOne();
         equalOnesAllOfTheRange();
+        equalOnesAllOfARangeWithin();
         lessThanAnEighthLeft();
         lessThanAnEighthRight();
         leftOf24();
@@ -77,6 +80,11 @@ public final class EdgeQuickTest {
         x.kill(2, n);
         Check.due("kill(2, " + n + "): count(5)", parted, x.count(5));
         Check.due("kill(2, " + n + "): count(4)", falls, x.count(4));
+        Model model = new Model();
+        Check.due("kill(2, " + n + "): count(2)", model.kill(2, n), x.count(2));
+        for (int i = 0; i < n; i += n / 200 + 1) {
+            Check.due("kill(2, " + n + "): get(" + i + ")", model.get(i), x.get(i));
+        }
         x.sort(2);
         Check.due("kill(2, " + n + "), sort(2): count(5)", 2 * parted, x.count(5));
         Check.due("kill(2, " + n + "), sort(2): count(3)", 2 * falls, x.count(3));
@@ -130,6 +138,24 @@ public final class EdgeQuickTest {
         quick("600 rising", 12 + 301 + 300 + 299 + 298, 1, line(0, 1, 600));
     }
 
+    /** Here THREE does exchange: which places it asks of shows in how long the rest takes, and in the TAGS. */
+    private static void moreThan128ByChance() {
+        for (int n = 127; n <= 131; n++) {
+            for (int seed = 0; seed < 60; seed++) {
+                int span = seed % 3 == 0 ? 10 : 100000;
+                SortBench x = new SortBench();
+                Model model = new Model();
+                x.more(seed, span, n);
+                model.more(seed, span, n);
+                String when = "more(" + seed + ", " + span + ", " + n + ")";
+                quick(when, model.sort(2), model.partings().size(), x);
+                for (int i = 0; i < n; i++) {
+                    Check.due(when + ", way 2: tag(" + i + ")", model.tag(i), x.tag(i));
+                }
+            }
+        }
+    }
+
     // "If it is not FIRST, and not a[b - 1] < a[b]: EQUAL ones go left: .. l is one less, once, and again as long as
     // p < a[l]; if l + 1 is e: as long as f < l: f is one more, till p < a[f]; else f is one more, once, and again till
     // p < a[f] .. the range begins behind l, and so on."
@@ -152,6 +178,14 @@ public final class EdgeQuickTest {
         quick("20 fives, 6 nines", 29 + 3 + 1 + 7 + 19 + 5, 1, fivesAndNines(20));
     }
 
+    private static void equalOnesBelowOneGreaterOne() {
+        SortBench x = line(5, 0, 20);
+        x.put(9);
+        x.line(5, 0, 5, 1);
+        // the 9 comes from 20 to 25. THREE 3, 1; l comes to 24: 2, so l + 1 is not e; f comes to 25: 24; one is left
+        quick("20 fives, a nine, 5 fives", 29 + 3 + 1 + 2 + 24, 1, x);
+    }
+
     private static void equalOnesAllOfTheRange() {
         // 24: the right range has 23, UNGUARDED: 22
         quick("24 alike", 3 + 1 + 23 + 22, 1, line(5, 0, 24));
@@ -163,6 +197,15 @@ public final class EdgeQuickTest {
         // 4 comes to 13 by THREE, 5 to the end; L is 1: 1, 13 (25 .. 13), exchanged, 1, 12; R is 24: exchanged; then
         // a[1] < a[2] does not hold: THREE 3, 1, l 1, f 23
         quick("25 alike and a lesser last one", 3 + 1 + 13 + 1 + 12 + 3 + 1 + 1 + 23, 1, x);
+    }
+
+    /** Behind its end stand greater ones: going on till p < a[f] would ask of these, but it stops at l. */
+    private static void equalOnesAllOfARangeWithin() {
+        SortBench x = Check.of(100);
+        x.line(5, 0, 25, 1);
+        x.line(101, 1, 2, 1);
+        // THREE 3, f 26, l 3; R is 2, below 28 / 8. The left range of 25 alike as above, then UNGUARDED 1
+        quick("25 alike below three", 3 + 26 + 3 + 56 + 1, 2, x);
     }
 
     // "Left are L = m - b, right R = e - m - 1 numbers. If one of them is below s / 8: the BUDGET is one less .. Otherwise,
