@@ -160,7 +160,8 @@ public final class SortTest {
 
     private static long sum(SortBench x) {
         long sum = 0;
-        for (int i = 0; i < x.count(0); i++) {
+        long n = x.count(0);
+        for (int i = 0; i < n; i++) {
             sum += x.get(i) * (x.tag(i) + 1L);
         }
         return sum;
