@@ -28,12 +28,15 @@ public final class FaceTest {
         Check.due("the class is public and final", true,
             Modifier.isPublic(c.getModifiers()) && Modifier.isFinal(c.getModifiers()));
         TreeSet<String> shown = new TreeSet<>();
+        TreeSet<String> names = new TreeSet<>();
         for (Method m : c.getDeclaredMethods()) {
             if (!Modifier.isPrivate(m.getModifiers()) && !m.isSynthetic()) {
                 shown.add(tell(m));
+                names.add(m.getName());
             }
         }
         Check.due("the face", new TreeSet<>(Arrays.asList(FACE)).toString(), shown.toString());
+        noNamesakes(c, names);
         for (Field f : c.getDeclaredFields()) {
             Check.due("the field " + f.getName() + " is private", true, Modifier.isPrivate(f.getModifiers()));
             Check.due("the field " + f.getName() + " is final, if static", true,
@@ -49,6 +52,18 @@ public final class FaceTest {
                 Modifier.isStatic(m) && !Modifier.isPublic(m) && !Modifier.isProtected(m));
         }
         Check.end("FaceTest");
+    }
+
+    /** LANGUAGE.md, rule 1: no private method bears the name of a public one; rule 11: at most seven parameters. */
+    private static void noNamesakes(Class<?> c, TreeSet<String> names) {
+        for (Method m : c.getDeclaredMethods()) {
+            Check.due(m.getName() + " is private and bears a public one's name", false,
+                Modifier.isPrivate(m.getModifiers()) && names.contains(m.getName()));
+            Check.due(m.getName() + " has at most seven parameters", true, m.getParameterCount() <= 7);
+        }
+        for (Class<?> inside : c.getDeclaredClasses()) {
+            noNamesakes(inside, names);
+        }
     }
 
     private static String tell(Method m) {
